@@ -455,10 +455,6 @@ public final class RingHerd {
     private static final class Planet {
         int flatness;
 
-        Planet() {
-            flatness = 0;
-        }
-
         int speedIn(int lane) {
             int radius = radiusOf(lane);
             if (radius < 1) {
@@ -473,12 +469,6 @@ public final class RingHerd {
         int lane;
         int angle;
         int width;
-
-        Moon() {
-            lane = 0;
-            angle = 0;
-            width = 0;
-        }
     }
 
     /** A grain; one that was never put is not there, and so takes part in nothing. */
@@ -491,13 +481,8 @@ public final class RingHerd {
         boolean there;
         boolean met;
 
-        Grain() {
-            there = false;
-            met = false;
-        }
-
         long carried() {
-            return (long) mass * radiusOf(lane);
+            return (long) mass * (lane + RADIUS_OF_FIRST_LANE);
         }
 
         boolean isNear(int otherLane, int otherAngle, int lanes, int angles) {
@@ -524,10 +509,6 @@ public final class RingHerd {
         long escapedMomentum;
         long givenByMoons;
         long heat;
-
-        Ledger() {
-            heat = 0;
-        }
     }
 
     /** All grains, and what befalls them in a tick. */
@@ -749,13 +730,8 @@ public final class RingHerd {
 
     /** The masses of all lanes as they were in a tick. */
     private static final class Frame {
+        final int[] masses = new int[LANES];
         int takenAt;
-        final int[] masses;
-
-        Frame() {
-            takenAt = 0;
-            masses = new int[LANES];
-        }
     }
 
     /** That in a frame none of some lanes has more than some mass. */
@@ -764,13 +740,6 @@ public final class RingHerd {
         int from;
         int to;
         int most;
-
-        Claim() {
-            frame = 0;
-            from = 0;
-            to = 0;
-            most = 0;
-        }
 
         boolean holdsBy(Frame looked) {
             for (int lane = from; lane <= to && lane < LANES; lane++) {

@@ -47,6 +47,10 @@ public final class FrameClaimTest {
         Check.wrongState(herd, "frame() of the 21st", () -> herd.frame());
         Check.due("framed(0, 0)", herd.framed(0, 0), 0);
         Check.due("framed(19, 0)", herd.framed(19, 0), 19);
+        int claim = herd.claim(19, 0, 0, 4);
+        Check.due("holds by the fifth", herd.holds(claim, 4), true);
+        Check.due("holds by the last", herd.holds(claim, 19), false);
+        Check.due("disputes of 20 frames", herd.disputes(claim), 15);
         Check.wrongNumber(herd, "framed(20, 0)", () -> herd.framed(20, 0));
     }
 

@@ -141,6 +141,16 @@ public final class PuttingTest {
         RingHerd stillBumps = twoToMeet(40, 40);
         stillBumps.tick(1);
         Check.counts("a clash of 80", stillBumps, 2, 2, 0, 0, 1, 0, 0);
+        RingHerd springs = twoToMeet(99, 98);
+        springs.bounds(20, 5000, 50);
+        springs.tick(1);
+        RingHerd asAtFirst = new RingHerd();
+        asAtFirst.grain(30, 0, 1, 99);
+        asAtFirst.grain(30, 0, 1, 98);
+        asAtFirst.tick(1);
+        Check.due("99 by the spring as it is at first", asAtFirst.told(0, 3), 49);
+        Check.due("98 by the spring as it is at first", asAtFirst.told(1, 3), 49);
+        Check.due("99 by the same spring", springs.told(0, 3), 49);
         RingHerd breaks = twoToMeet(40, 41);
         breaks.tick(1);
         Check.counts("a clash of 81", breaks, 3, 3, 0, 1, 0, 0, 0);

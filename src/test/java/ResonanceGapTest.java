@@ -214,6 +214,19 @@ public final class ResonanceGapTest {
         Check.due("2 to 5", three.resonance(0, 30), 25);
         Check.due("2 to 5 alone", three.resonance(0, 33), NONE);
         Check.due("a difference of 3 keeps nothing", three.gap(0, 2), NONE);
+        RingHerd last = grainsIn(30, 33);
+        for (int i = 0; i < 5; i++) {
+            last.moon(0, 0, 1);
+        }
+        last.moon(29, 0, 1);
+        // 734 of lane 29 by 720 and 679: too much alike, or 12 to 13.
+        Check.due("none of six moons", last.gap(0, 2), NONE);
+        RingHerd sixth = grainsIn(30, 33);
+        for (int i = 0; i < 5; i++) {
+            sixth.moon(0, 0, 1);
+        }
+        sixth.moon(5, 0, 1);
+        Check.due("the last of six moons", sixth.gap(0, 2), 5);
         RingHerd lowest = grainsIn(10, 20);
         lowest.moon(40, 0, 1);
         lowest.moon(0, 0, 1);

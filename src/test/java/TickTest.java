@@ -7,6 +7,7 @@ public final class TickTest {
         widthOfMoons();
         pushesByAngle();
         moonsByRisingNumbers();
+        sixMoons();
         unrestOfPushes();
         rainByAMoon();
         escapeByAMoon();
@@ -147,6 +148,18 @@ public final class TickTest {
         Check.due("given and taken", back.momentum(4), 0);
     }
 
+    private static void sixMoons() {
+        RingHerd herd = new RingHerd();
+        herd.grain(10, 0, 3, 0);
+        for (int lane = 10; lane <= 15; lane++) {
+            herd.moon(lane, 0, 1);
+        }
+        Check.due("tick(1)", herd.tick(1), 1);
+        Check.grain("pushed by six moons", herd, 0, 16, 1200, 3, 30, 1, 1);
+        Check.due("all moons go round", herd.angle(5), 1028);
+        Check.momenta("all moons give", herd, 108, 0, 0, 90, 18, 0);
+    }
+
     private static void unrestOfPushes() {
         for (int unrest = 90; unrest <= 99; unrest++) {
             RingHerd herd = new RingHerd();
@@ -246,6 +259,20 @@ public final class TickTest {
         gone.tick(1);
         Check.due("they stand at one angle", gone.told(2, 1), gone.told(0, 1));
         Check.counts("one that is gone meets none", gone, 3, 2, 0, 0, 1, 1, 0);
+        RingHerd bumped = new RingHerd();
+        bumped.grain(30, 0, 1, 30);
+        bumped.grain(30, 0, 2, 30);
+        bumped.grain(30, 0, 4, 30);
+        bumped.tick(1);
+        Check.counts("the second has met", bumped, 3, 3, 0, 0, 1, 0, 0);
+        Check.grain("nobody to meet is left", bumped, 2, 30, 720, 4, 30, 1, 1);
+        RingHerd aside = new RingHerd();
+        aside.grain(30, 0, 1, 30);
+        aside.grain(30, 150, 2, 30);
+        aside.grain(30, 75, 4, 30);
+        aside.tick(1);
+        Check.counts("the third has met the first", aside, 3, 3, 0, 0, 1, 0, 0);
+        Check.grain("so it does not meet the second", aside, 1, 30, 870, 2, 30, 1, 1);
     }
 
     private static void sticking() {
