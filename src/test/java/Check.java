@@ -38,6 +38,19 @@ final class Check {
         }
     }
 
+    /** The call is due to throw just that exception. */
+    static void throwsJust(String exception, String name, Runnable call) {
+        due(name + " throws", thrownBy(call), exception);
+    }
+
+    static int madeSoFar() {
+        return made;
+    }
+
+    static int wrongSoFar() {
+        return wrong;
+    }
+
     /** The call is due to throw just that exception, and to change nothing of the herd. */
     static void refused(RingHerd herd, String exception, String name, Runnable call) {
         String before = stateOf(herd);
