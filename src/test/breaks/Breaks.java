@@ -12,7 +12,7 @@ import javax.tools.ToolProvider;
 
 /**
  * Tries all of breaks.txt: breaks a copy of the class, runs BoundaryTest against it, and tells where the test of the
- * sentence did not fail. It takes some minutes, so .ci/run does without it. From the project's directory:
+ * sentence did not fail. It takes half a minute, so .ci/run does without it. From the project's directory:
  * java src/test/breaks/Breaks.java
  */
 public final class Breaks {
